@@ -486,6 +486,7 @@ public final class LanternWalk {
         // Notes of the step that goes on: of no worth behind it, and so not copied.
         private final boolean[] burnedBefore = new boolean[MOST_WALKERS];
         private final int[] knownBefore = new int[MOST_WALKERS * MOST_SONGS];
+        private final int[] loudest = new int[MOST_SONGS];
         private final int[] stillLets = new int[MOST_STRETCHES];
         private final boolean[] hasGone = new boolean[MOST_WALKERS];
 
@@ -721,40 +722,40 @@ public final class LanternWalk {
 
         private void singToEachOther() {
             copyNumbers(known, knownBefore);
+            for (int w = 0; w < setting.walkers; w++) {
+                if (stage[w] == WALKS) {
+                    listenAround(w);
+                }
+            }
+        }
+
+        private void listenAround(int learner) {
+            Arrays.fill(loudest, NONE);
+            for (int w = 0; w < setting.walkers; w++) {
+                if (areNeighbours(learner, w)) {
+                    listenTo(w, learner);
+                }
+            }
+        }
+
+        /**
+         * A louder singer, heard later, writes over what was learnt of this one; and where the
+         * loudest is not heard, none of the others was.
+         */
+        private void listenTo(int singer, int learner) {
+            int voice = setting.voice[singer];
+            int heard = burns[learner] ? voice : voice + DARK_HELPS;
+            boolean changes = burns[learner] && burns[singer];
             for (int song = 0; song < setting.songs; song++) {
-                for (int w = 0; w < setting.walkers; w++) {
-                    if (stage[w] == WALKS && knownBefore[cellOf(w, song)] == 0) {
-                        listen(w, song);
+                int own = cellOf(learner, song);
+                int sung = knownBefore[cellOf(singer, song)];
+                if (knownBefore[own] == 0 && sung != 0 && voice > loudest[song]) {
+                    loudest[song] = voice;
+                    if (heard >= setting.songLength[song]) {
+                        known[own] = changes ? sung % VERSIONS + 1 : sung;
                     }
                 }
             }
-        }
-
-        private void listen(int learner, int song) {
-            int singer = singerFor(learner, song);
-            if (singer == NONE) {
-                return;
-            }
-            int voice = setting.voice[singer] + (burns[learner] ? 0 : DARK_HELPS);
-            if (voice < setting.songLength[song]) {
-                return;
-            }
-            int version = knownBefore[cellOf(singer, song)];
-            boolean bothBurn = burns[learner] && burns[singer];
-            known[cellOf(learner, song)] = bothBurn ? version % VERSIONS + 1 : version;
-        }
-
-        /** The neighbour who knows the song and has the greatest voice, the smallest number of several. */
-        private int singerFor(int learner, int song) {
-            int best = NONE;
-            int greatest = -1;
-            for (int w = 0; w < setting.walkers; w++) {
-                if (knownBefore[cellOf(w, song)] != 0 && setting.voice[w] > greatest && areNeighbours(learner, w)) {
-                    greatest = setting.voice[w];
-                    best = w;
-                }
-            }
-            return best;
         }
 
         private void goOn() {

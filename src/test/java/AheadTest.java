@@ -16,6 +16,7 @@ public final class AheadTest {
         withoutARoute();
         advise();
         adviseOfSeveral();
+        windOfTheStep();
         adviseWrongNumbers();
         nothingIsChanged();
         CHECK.end();
@@ -191,6 +192,35 @@ public final class AheadTest {
         CHECK.due("advise(0, 3), when the other helps at 0", x.advise(0, 3), 1);
         x.post(1, 1);
         CHECK.due("advise(0, 3), when the other helps at 1", x.advise(0, 3), 0);
+        // Of pace 2, the second is home in the step 1 by a steward at 0, and in 2 by one at 1: with both it is 2 by then.
+        LanternWalk y = new LanternWalk();
+        y.addStretch(1, 1);
+        y.addStretch(1, 1);
+        y.come(1, 100, 0);
+        y.come(2, 100, 0);
+        CHECK.due("advise(1, 3), when either corner is as good", y.advise(1, 3), 0);
+        CHECK.due("advise(1, 2), when the first alone is good", y.advise(1, 2), 0);
+        y.post(0, 0);
+        CHECK.due("advise(1, 2), when the other helps at 0", y.advise(1, 2), -1);
+    }
+
+    /** Looking ahead goes on from the step that it is, so with the wind of that step. */
+    private static void windOfTheStep() {
+        LanternWalk x = new LanternWalk();
+        x.addStretch(20, 4);
+        x.addSong(3);
+        x.come(2, 100, 0);
+        x.come(1, 0, 0);
+        x.setWind(3, 8);
+        x.pass(1);
+        CHECK.due("foresee(2, 1) ahead of the wind", x.foresee(2, 1), 1);
+        CHECK.due("foresee(3, 1) with the wind", x.foresee(3, 1), 0);
+        CHECK.due("home(0), slow from the wind on", x.home(0), 18);
+        x.setWind(3, 0);
+        CHECK.due("foresee(3, 1) without the wind", x.foresee(3, 1), 1);
+        CHECK.due("home(0) without the wind", x.home(0), 10);
+        x.setWind(0, 8);
+        CHECK.due("foresee(2, 1) with the wind of a step gone by", x.foresee(2, 1), 1);
     }
 
     private static void adviseWrongNumbers() {

@@ -248,7 +248,8 @@ public final class StepTest {
         int[] onlyThree = {0, 0, 0, 30};
         CHECK.due("learnt of 3 alone", learnt(new int[] {9, 9, 0, 2}, onlyThree, 5), 30);
         CHECK.due("learnt of the greatest, the last", learnt(new int[] {3, 4, 0, 5}, new int[] {10, 20, 0, 30}, 1), 30);
-        CHECK.due("learnt of the greatest, in between", learnt(new int[] {3, 5, 9, 4}, new int[] {10, 20, 0, 30}, 1), 20);
+        CHECK.due("learnt of the greatest, in the midst",
+                learnt(new int[] {3, 5, 9, 4}, new int[] {10, 20, 0, 30}, 1), 20);
         CHECK.due("learnt of equal ones", learnt(new int[] {4, 5, 0, 5}, new int[] {10, 20, 0, 30}, 1), 20);
         CHECK.due("learnt of all equal", learnt(new int[] {0, 0, 0, 0}, new int[] {10, 20, 0, 30}, 1), 10);
         CHECK.due("learnt of the one who knows", learnt(new int[] {9, 5, 0, 9}, new int[] {0, 20, 0, 0}, 1), 20);
@@ -459,6 +460,12 @@ public final class StepTest {
         CHECK.due("place of the second", x.walker(1, PLACE), 0);
         CHECK.due("pass(1), the second goes home", x.pass(1), 1);
         CHECK.due("the step in which it came home", x.walker(1, 8), 2);
+        LanternWalk y = withRoute(1, 1);
+        y.come(3, 100, 0);
+        y.pass(2);
+        dueAll(y, "at home, with pace left", PLACE, -1);
+        dueAll(y, "at home, with pace left", 4, 2);
+        CHECK.due("passed the corner", y.stretch(0, 4), 1);
     }
 
     /** A later number that is further ahead takes what the corner lets through. */
