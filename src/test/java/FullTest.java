@@ -6,6 +6,8 @@ public final class FullTest {
     public static void main(String[] args) {
         limitsOfNumbers();
         dearestCalls();
+        fullParadeIsToldAsByTheModel();
+        lastOfAllCalls();
         CHECK.end();
     }
 
@@ -48,5 +50,48 @@ public final class FullTest {
             x.advise(i % 2, 100);
         }
         CHECK.due("digest() behind " + CALLS + " calls of advise", x.digest(), digest);
+    }
+
+    private static Model fullModel() {
+        Model m = new Model();
+        for (int s = 0; s < 10; s++) {
+            m.addStretch(20, 1);
+            m.setWind(s, s);
+        }
+        for (int w = 0; w < 20; w++) {
+            m.come(1 + w % 3, 200, w % 10);
+        }
+        for (int s = 0; s < 6; s++) {
+            m.addSong(9 - s);
+            m.teach(s, s, 99 - s);
+        }
+        return m;
+    }
+
+    /** All that there is of the most stretches, walkers and songs, from the start until all are home. */
+    private static void fullParadeIsToldAsByTheModel() {
+        LanternWalk x = full();
+        Model m = fullModel();
+        for (int steps = 0; steps < 240; steps += 20) {
+            CHECK.due("digest() behind " + steps, x.digest(), m.digest());
+            for (int s = 0; s < 6; s++) {
+                for (int what = 1; what <= 3; what++) {
+                    CHECK.due("song(" + s + ", " + what + ") behind " + steps, x.song(s, what), m.song(s, what));
+                }
+            }
+            CHECK.due("pass(20) behind " + steps, x.pass(20), m.pass(20));
+        }
+        CHECK.due("who is home", x.count(6), 20);
+    }
+
+    /** "An object is used for at most 512 calls": the last of them still answers as the first. */
+    private static void lastOfAllCalls() {
+        LanternWalk x = new LanternWalk();
+        x.addStretch(1, 1);
+        x.come(1, 200, 9);
+        for (int call = 3; call < CALLS; call++) {
+            x.pass(200);
+        }
+        CHECK.due("count(0), the call " + CALLS, x.count(0), 101_800);
     }
 }

@@ -1,4 +1,4 @@
-/** Promise 13, pass, and the six points of how a step goes. */
+/** Promise 13, pass, and the six points of how a step goes; StepBoundsTest has what bounds them. */
 public final class StepTest {
     private static final int LIT = 3;
     private static final int PLACE = 5;
@@ -12,13 +12,8 @@ public final class StepTest {
         windSparesThree();
         windOfTheStepByTheRemainder();
         lanternsAreLit();
-        lightGoesOneAtATime();
         wickOfNoneIsNotLit();
-        songsGoOneAtATime();
         songsAreLearntFromTheGreatestVoice();
-        songsChangeInTheLight();
-        songsAreHelpedByTheDark();
-        learnersLitInTheStepAreNotInTheDark();
         songsNeedNeighbours();
         paceAndDark();
         fullPlaceStops();
@@ -29,14 +24,6 @@ public final class StepTest {
         foremostGoesFirst();
         start();
         CHECK.end();
-    }
-
-    private static LanternWalk withRoute(int... lengthsAndLets) {
-        LanternWalk x = new LanternWalk();
-        for (int i = 0; i + 1 < lengthsAndLets.length; i += 2) {
-            x.addStretch(lengthsAndLets[i], lengthsAndLets[i + 1]);
-        }
-        return x;
     }
 
     private static void dueAll(LanternWalk x, String when, int what, int... want) {
@@ -61,13 +48,13 @@ public final class StepTest {
         CHECK.due("pass(200), the second comes home", x.pass(200), 1);
         CHECK.due("pass(200), all are home", x.pass(200), 0);
         CHECK.due("the step", x.count(0), 404);
-        LanternWalk empty = withRoute(1, 1);
+        LanternWalk empty = Parades.withRoute(1, 1);
         CHECK.due("pass(200) without walkers", empty.pass(200), 0);
         CHECK.due("its step", empty.count(0), 200);
     }
 
     private static void wicksBurnDown() {
-        LanternWalk x = withRoute(20, 1);
+        LanternWalk x = Parades.withRoute(20, 1);
         x.come(1, 3, 0);
         x.come(1, 0, 0);
         x.come(1, 50, 0);
@@ -85,7 +72,7 @@ public final class StepTest {
     }
 
     private static void windDrains() {
-        LanternWalk x = withRoute(20, 1);
+        LanternWalk x = Parades.withRoute(20, 1);
         x.setWind(0, 5);
         x.setWind(1, 6);
         x.setWind(2, 7);
@@ -101,7 +88,7 @@ public final class StepTest {
     }
 
     private static void windBlowsOut() {
-        LanternWalk x = withRoute(20, 1);
+        LanternWalk x = Parades.withRoute(20, 1);
         x.setWind(1, 7);
         x.setWind(2, 8);
         x.setWind(5, 9);
@@ -124,7 +111,7 @@ public final class StepTest {
 
     /** Three who are together have two neighbours each; one who waits is not blown out. */
     private static void windSparesThree() {
-        LanternWalk x = withRoute(20, 4);
+        LanternWalk x = Parades.withRoute(20, 4);
         x.setWind(2, 9);
         for (int w = 0; w < 3; w++) {
             x.come(1, 50, 0);
@@ -134,7 +121,7 @@ public final class StepTest {
         x.pass(1);
         dueAll(x, "in wind 9", LIT, 1, 1, 1);
         dueAll(x, "in wind 9", 1, 46, 46, 46);
-        LanternWalk y = withRoute(20, 4);
+        LanternWalk y = Parades.withRoute(20, 4);
         y.setWind(1, 9);
         for (int w = 0; w < 3; w++) {
             y.come(1, 50, 0);
@@ -145,7 +132,7 @@ public final class StepTest {
     }
 
     private static void windOfTheStepByTheRemainder() {
-        LanternWalk x = withRoute(20, 4);
+        LanternWalk x = Parades.withRoute(20, 4);
         x.setWind(3, 6);
         x.come(1, 200, 0);
         x.pass(3);
@@ -159,7 +146,7 @@ public final class StepTest {
     }
 
     private static void lanternsAreLit() {
-        LanternWalk x = withRoute(20, 4);
+        LanternWalk x = Parades.withRoute(20, 4);
         x.setWind(1, 9);
         for (int w = 0; w < 3; w++) {
             x.come(1, 50, 0);
@@ -174,24 +161,9 @@ public final class StepTest {
         dueAll(x, "two steps later", 1, 46, 46, 45);
     }
 
-    /** Dark ones at 2 and 1, a burning one at 0: the one at 1 is lit, the one at 2 not yet. */
-    private static void lightGoesOneAtATime() {
-        LanternWalk x = withRoute(20, 4);
-        x.setWind(1, 9);
-        x.come(3, 50, 0);
-        x.come(1, 50, 0);
-        x.come(1, 50, 0);
-        x.pass(2);
-        dueAll(x, "behind the wind", PLACE, 2, 1, 0);
-        dueAll(x, "behind the wind", LIT, 0, 0, 1);
-        x.pass(1);
-        dueAll(x, "a step later", LIT, 0, 1, 1);
-        dueAll(x, "a step later", PLACE, 4, 2, 1);
-    }
-
     /** A lantern whose wick burned up in the step lights nobody, and is not lit again. */
     private static void wickOfNoneIsNotLit() {
-        LanternWalk x = withRoute(20, 4);
+        LanternWalk x = Parades.withRoute(20, 4);
         x.setWind(1, 9);
         x.come(1, 50, 0);
         x.come(1, 0, 0);
@@ -203,29 +175,8 @@ public final class StepTest {
         dueAll(x, "when the last one's wick is burned up", LIT, 0, 0, 0);
     }
 
-    /** At 2, 1 and 0, the one at 0 knows: the one at 1 learns, the one at 2 not yet. */
-    private static void songsGoOneAtATime() {
-        LanternWalk x = withRoute(20, 4);
-        x.addSong(1);
-        x.addSong(1);
-        x.come(3, 0, 9);
-        x.come(1, 0, 9);
-        x.come(1, 0, 9);
-        x.pass(2);
-        dueAll(x, "behind 2", PLACE, 2, 1, 0);
-        x.teach(2, 0, 7);
-        x.teach(0, 1, 8);
-        x.pass(1);
-        CHECK.due("knows(1, 0)", x.knows(1, 0), 7);
-        CHECK.due("knows(0, 0)", x.knows(0, 0), 0);
-        CHECK.due("knows(1, 1)", x.knows(1, 1), 8);
-        CHECK.due("knows(2, 1)", x.knows(2, 1), 0);
-        x.pass(1);
-        CHECK.due("knows(2, 1), a step later", x.knows(2, 1), 8);
-    }
-
     private static int learnt(int[] voices, int[] versions, int length) {
-        LanternWalk x = withRoute(20, 4);
+        LanternWalk x = Parades.withRoute(20, 4);
         x.addSong(length);
         for (int voice : voices) {
             x.come(1, 0, voice);
@@ -257,62 +208,8 @@ public final class StepTest {
         CHECK.due("learnt, when nobody knows", learnt(new int[] {9, 9, 9, 9}, new int[] {0, 0, 0, 0}, 1), 0);
     }
 
-    /** One who knows and one who learns, at place 0 when the step goes. */
-    private static int learntOfOne(int wickOfSinger, int wickOfLearner, int voice, int length, int version) {
-        LanternWalk x = withRoute(20, 4);
-        x.addSong(length);
-        x.come(1, wickOfSinger, voice);
-        x.come(1, wickOfLearner, 9);
-        x.teach(0, 0, version);
-        x.pass(2);
-        CHECK.due("what the singer knew", x.knows(0, 0), version);
-        return x.knows(1, 0);
-    }
-
-    private static void songsChangeInTheLight() {
-        CHECK.due("1 in the light", learntOfOne(50, 50, 9, 1, 1), 2);
-        CHECK.due("97 in the light", learntOfOne(50, 50, 9, 1, 97), 98);
-        CHECK.due("98 in the light", learntOfOne(50, 50, 9, 1, 98), 99);
-        CHECK.due("99 in the light", learntOfOne(50, 50, 9, 1, 99), 1);
-        CHECK.due("5 of one in the dark", learntOfOne(0, 50, 9, 1, 5), 5);
-        CHECK.due("5 by one in the dark", learntOfOne(50, 0, 9, 1, 5), 5);
-        CHECK.due("5 in the dark", learntOfOne(0, 0, 9, 1, 5), 5);
-        CHECK.due("99 in the dark", learntOfOne(0, 0, 9, 1, 99), 99);
-        CHECK.due("5 of one whose wick ends in the step", learntOfOne(2, 50, 9, 1, 5), 5);
-    }
-
-    private static void songsAreHelpedByTheDark() {
-        CHECK.due("voice 4, length 4 in the light", learntOfOne(50, 50, 4, 4, 5), 6);
-        CHECK.due("voice 3, length 4 in the light", learntOfOne(50, 50, 3, 4, 5), 0);
-        CHECK.due("voice 3, length 4 of one in the dark", learntOfOne(0, 50, 3, 4, 5), 0);
-        CHECK.due("voice 3, length 6 by one in the dark", learntOfOne(50, 0, 3, 6, 5), 5);
-        CHECK.due("voice 3, length 7 by one in the dark", learntOfOne(50, 0, 3, 7, 5), 0);
-        CHECK.due("voice 0, length 3 in the dark", learntOfOne(0, 0, 0, 3, 5), 5);
-        CHECK.due("voice 0, length 4 in the dark", learntOfOne(0, 0, 0, 4, 5), 0);
-        CHECK.due("voice 9, length 9 in the light", learntOfOne(50, 50, 9, 9, 5), 6);
-        CHECK.due("voice 8, length 9 in the light", learntOfOne(50, 50, 8, 9, 5), 0);
-    }
-
-    /** In the step 2 the ones at 1 are lit by the one at 0: so they have no help of the dark. */
-    private static void learnersLitInTheStepAreNotInTheDark() {
-        LanternWalk x = withRoute(20, 4);
-        x.setWind(1, 9);
-        x.addSong(6);
-        x.addSong(3);
-        for (int w = 0; w < 3; w++) {
-            x.come(1, 50, 3);
-        }
-        x.pass(2);
-        dueAll(x, "behind the wind", LIT, 0, 0, 1);
-        x.teach(2, 0, 5);
-        x.teach(2, 1, 5);
-        x.pass(1);
-        CHECK.due("the song of length 6", x.knows(0, 0), 0);
-        CHECK.due("the song of length 3", x.knows(0, 1), 6);
-    }
-
     private static void songsNeedNeighbours() {
-        LanternWalk x = withRoute(20, 4);
+        LanternWalk x = Parades.withRoute(20, 4);
         x.addSong(1);
         for (int w = 0; w < 3; w++) {
             x.come(1, 50, 9);
@@ -320,7 +217,7 @@ public final class StepTest {
         x.teach(2, 0, 5);
         x.pass(2);
         CHECK.due("learnt of one who waits", x.knows(0, 0), 0);
-        LanternWalk y = withRoute(20, 4);
+        LanternWalk y = Parades.withRoute(20, 4);
         y.addSong(1);
         y.come(3, 50, 9);
         y.come(1, 50, 9);
@@ -329,7 +226,7 @@ public final class StepTest {
         y.teach(0, 0, 5);
         y.pass(1);
         CHECK.due("learnt of one 2 places ahead", y.knows(1, 0), 0);
-        LanternWalk z = withRoute(1, 1);
+        LanternWalk z = Parades.withRoute(1, 1);
         z.addSong(1);
         z.come(1, 50, 9);
         z.come(1, 50, 9);
@@ -348,7 +245,7 @@ public final class StepTest {
     private static void paceAndDark() {
         int[][] paceWickPlace = {{1, 50, 1}, {2, 50, 2}, {3, 50, 3}, {1, 0, 1}, {2, 0, 1}, {3, 0, 2}};
         for (int[] p : paceWickPlace) {
-            LanternWalk x = withRoute(20, 4);
+            LanternWalk x = Parades.withRoute(20, 4);
             x.come(p[0], p[1], 0);
             x.pass(1);
             CHECK.due("place of one who started", x.walker(0, PLACE), 0);
@@ -359,7 +256,7 @@ public final class StepTest {
     }
 
     private static void fullPlaceStops() {
-        LanternWalk x = withRoute(20, 4);
+        LanternWalk x = Parades.withRoute(20, 4);
         int[] paces = {1, 1, 3, 3};
         for (int pace : paces) {
             x.come(pace, 100, 0);
@@ -368,7 +265,7 @@ public final class StepTest {
         dueAll(x, "behind 2", PLACE, 1, 1, 0, 0);
         x.pass(1);
         dueAll(x, "behind 3", PLACE, 2, 2, 1, 1);
-        LanternWalk y = withRoute(20, 4);
+        LanternWalk y = Parades.withRoute(20, 4);
         int[] looser = {2, 1, 3, 3};
         for (int pace : looser) {
             y.come(pace, 100, 0);
@@ -381,7 +278,7 @@ public final class StepTest {
 
     /** The third one is stopped by the full place 2 itself, so the corner, which has let its two, counts no stop. */
     private static void fullPlaceGoesAheadOfTheCorner() {
-        LanternWalk x = withRoute(2, 2, 10, 4);
+        LanternWalk x = Parades.withRoute(2, 2, 10, 4);
         int[] paces = {1, 1, 3};
         for (int pace : paces) {
             x.come(pace, 100, 0);
@@ -396,7 +293,7 @@ public final class StepTest {
     }
 
     private static void cornerStops() {
-        LanternWalk x = withRoute(3, 1, 10, 1);
+        LanternWalk x = Parades.withRoute(3, 1, 10, 1);
         int[] paces = {2, 2, 3};
         for (int pace : paces) {
             x.come(pace, 100, 0);
@@ -411,7 +308,7 @@ public final class StepTest {
         x.pass(1);
         dueAll(x, "behind 4", PLACE, 6, 4, 2);
         CHECK.due("stopped, a step later", x.stretch(0, 5), 3);
-        LanternWalk y = withRoute(2, 1, 10, 1);
+        LanternWalk y = Parades.withRoute(2, 1, 10, 1);
         int[] again = {1, 1, 3};
         for (int pace : again) {
             y.come(pace, 100, 0);
@@ -421,7 +318,7 @@ public final class StepTest {
         y.pass(1);
         dueAll(y, "of y behind 3", PLACE, 2, 1, 1);
         CHECK.due("stopped, with places left to go too", y.stretch(0, 5), 2);
-        LanternWalk z = withRoute(3, 1, 10, 1);
+        LanternWalk z = Parades.withRoute(3, 1, 10, 1);
         for (int w = 0; w < 3; w++) {
             z.come(2, 100, 0);
         }
@@ -433,7 +330,7 @@ public final class StepTest {
     private static void stewardsLetMoreThrough() {
         int[][] lets = {{-1, -1, 1}, {0, -1, 2}, {-1, 0, 2}, {0, 0, 3}, {1, 1, 1}};
         for (int[] l : lets) {
-            LanternWalk x = withRoute(1, 1, 10, 4, 1, 1);
+            LanternWalk x = Parades.withRoute(1, 1, 10, 4, 1, 1);
             for (int w = 0; w < 2; w++) {
                 x.come(1, 100, 0);
             }
@@ -448,7 +345,7 @@ public final class StepTest {
     }
 
     private static void severalCornersInAStep() {
-        LanternWalk x = withRoute(1, 1, 1, 1, 1, 1);
+        LanternWalk x = Parades.withRoute(1, 1, 1, 1, 1, 1);
         x.come(3, 100, 0);
         x.come(3, 100, 0);
         CHECK.due("pass(1)", x.pass(1), 0);
@@ -460,7 +357,7 @@ public final class StepTest {
         CHECK.due("place of the second", x.walker(1, PLACE), 0);
         CHECK.due("pass(1), the second goes home", x.pass(1), 1);
         CHECK.due("the step in which it came home", x.walker(1, 8), 2);
-        LanternWalk y = withRoute(1, 1);
+        LanternWalk y = Parades.withRoute(1, 1);
         y.come(3, 100, 0);
         y.pass(2);
         dueAll(y, "at home, with pace left", PLACE, -1);
@@ -470,12 +367,12 @@ public final class StepTest {
 
     /** A later number that is further ahead takes what the corner lets through. */
     private static void foremostGoesFirst() {
-        LanternWalk x = withRoute(3, 1, 10, 1);
+        LanternWalk x = Parades.withRoute(3, 1, 10, 1);
         x.come(1, 100, 0);
         x.come(2, 100, 0);
         x.pass(3);
         dueAll(x, "behind 3", PLACE, 2, 4);
-        LanternWalk y = withRoute(3, 1, 10, 1);
+        LanternWalk y = Parades.withRoute(3, 1, 10, 1);
         y.come(2, 0, 0);
         y.come(2, 100, 0);
         y.pass(2);
@@ -484,7 +381,7 @@ public final class StepTest {
         y.pass(1);
         dueAll(y, "of y behind 3", PLACE, 2, 4);
         CHECK.due("stopped", y.stretch(0, 5), 1);
-        LanternWalk z = withRoute(1, 1, 10, 1);
+        LanternWalk z = Parades.withRoute(1, 1, 10, 1);
         z.come(1, 100, 0);
         z.come(1, 100, 0);
         z.pass(2);
@@ -492,7 +389,7 @@ public final class StepTest {
     }
 
     private static void start() {
-        LanternWalk x = withRoute(2, 1);
+        LanternWalk x = Parades.withRoute(2, 1);
         for (int w = 0; w < 5; w++) {
             x.come(1, 100, 0);
         }
